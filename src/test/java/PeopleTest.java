@@ -50,6 +50,7 @@ public final class PeopleTest {
         CHECK.due("person(7, 0, 7, 0)", x.person(7, 0, 7, 0), 1);
         for (int m = 0; m < 4; m++) {
             CHECK.due("look(0, 4 + " + m + ")", x.look(0, 4 + m), m % 2 == 0 ? 0 : 7);
+            CHECK.due("look(1, 4 + " + m + ")", x.look(1, 4 + m), m % 2 == 0 ? 7 : 0);
         }
     }
 
