@@ -9,6 +9,7 @@ public final class KnowsTest {
         smallCountsDoNotLeave();
         countsWithFewOthersDoNotLeave();
         zeroCountsCanBeHeldBackToo();
+        everyLeastIsHeldAgainstEveryCount();
         marksAreThoseOfTheHead();
         wrongOnesAreNotAnswered();
         CHECK.end();
@@ -144,6 +145,34 @@ public final class KnowsTest {
         CHECK.due("0, three others", y.count(0, 1, 5), 0);
         OtherNames z = withNumbers(3);
         CHECK.due("0, nobody", z.count(0, 1, 5), 0);
+    }
+
+    private static void everyLeastIsHeldAgainstEveryCount() {
+        for (int having = 0; having <= 24; having++) {
+            for (int others = 0; others <= 24 - having; others++) {
+                for (int least = 0; least < 25; least += 5) {
+                    fiveLeastsAgainst(least, having, others);
+                }
+            }
+        }
+    }
+
+    private static void fiveLeastsAgainst(int least, int having, int others) {
+        OtherNames x = new OtherNames();
+        for (int h = 0; h < 5; h++) {
+            x.house(0, 1, 1, 0, least + h);
+        }
+        for (int p = 0; p < having + others; p++) {
+            x.person(0, 0, p < having ? 7 : p % 7, 0);
+            for (int h = 0; h < 5; h++) {
+                x.name(h, p);
+            }
+        }
+        for (int h = 0; h < 5; h++) {
+            boolean small = having > 0 && having < least + h || others > 0 && others < least + h;
+            String call = "LEAST " + (least + h) + ", " + having + " and " + others + " others";
+            CHECK.due(call, x.count(h, 2, 7), small ? -2 : having);
+        }
     }
 
     private static void marksAreThoseOfTheHead() {

@@ -65,7 +65,7 @@ public final class ModelTest {
     }
 
     private static void both(int run, OtherNames x, Model model, String method, int[] a) {
-        CHECK.due("run " + run + ": " + method + Arrays.toString(a), call(x, method, a), model.call(method, a));
+        CHECK.due("run " + run + ": " + method + Arrays.toString(a), Calls.on(x, method, a), model.call(method, a));
     }
 
     /** Mostly a number from 0 up to below, at times the ones just outside. */
@@ -104,34 +104,6 @@ public final class ModelTest {
             case "given": return new int[] {upTo(r, Math.max(1, model.call("tell", new int[] {3}))), upTo(r, 5)};
             case "look": return new int[] {p, upTo(r, 8)};
             case "tell": return new int[] {r.nextBoolean() ? upTo(r, 6) : 10 * (1 + r.nextInt(3)) + upTo(r, 5)};
-            default: throw new IllegalStateException(method);
-        }
-    }
-
-    private static int call(OtherNames x, String method, int[] a) {
-        switch (method) {
-            case "person": return x.person(a[0], a[1], a[2], a[3]);
-            case "mark": return x.mark(a[0], a[1], a[2]) ? 1 : 0;
-            case "house": return x.house(a[0], a[1], a[2], a[3], a[4]);
-            case "day": return x.day(a[0]) ? 1 : 0;
-            case "one": return x.one(a[0], a[1]) ? 1 : 0;
-            case "part": return x.part(a[0]) ? 1 : 0;
-            case "strike": return x.strike(a[0]) ? 1 : 0;
-            case "name": return x.name(a[0], a[1]);
-            case "leads": return x.leads(a[0], a[1]);
-            case "bridge": return x.bridge(a[0], a[1], a[2], a[3]) ? 1 : 0;
-            case "holds": return x.holds(a[0], a[1], a[2]);
-            case "cross": return x.cross(a[0], a[1], a[2], a[3]);
-            case "back": return x.back(a[0], a[1], a[2], a[3], a[4]);
-            case "lose": return x.lose(a[0]) ? 1 : 0;
-            case "anew": return x.anew(a[0], a[1]) ? 1 : 0;
-            case "joins": return x.joins(a[0], a[1], a[2]);
-            case "least": return x.least(a[0], a[1]);
-            case "count": return x.count(a[0], a[1], a[2]);
-            case "record": return x.record(a[0], a[1]);
-            case "given": return x.given(a[0], a[1]);
-            case "look": return x.look(a[0], a[1]);
-            case "tell": return x.tell(a[0]);
             default: throw new IllegalStateException(method);
         }
     }
