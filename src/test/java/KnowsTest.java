@@ -4,6 +4,8 @@ public final class KnowsTest {
 
     public static void main(String[] args) {
         housesKnowHeadsThatAreNotStruckOut();
+        eachHouseKnowsItsOwn();
+        theSmallestGroupCanBeAnyones();
         groupsAreMadeByMarks();
         whoIsAloneInBothCouldBeJoined();
         smallCountsDoNotLeave();
@@ -40,6 +42,44 @@ public final class KnowsTest {
         CHECK.due("all struck out", x.least(0, 15), 0);
         CHECK.due("tell(20)", x.tell(20), 0);
         CHECK.due("tell(10)", x.tell(10), 4);
+    }
+
+    private static void eachHouseKnowsItsOwn() {
+        OtherNames x = new OtherNames();
+        for (int p = 0; p < 5; p++) {
+            x.person(p, 0, 0, 0);
+            x.house(p % 3, 1, 1, 0, 0);
+        }
+        for (int h = 0; h < 5; h++) {
+            for (int p = 0; p < h; p++) {
+                x.name(h, p);
+            }
+        }
+        for (int h = 0; h < 5; h++) {
+            CHECK.due("tell(20 + h) " + h, x.tell(20 + h), h);
+            CHECK.due("least(h, 0) " + h, x.least(h, 0), h);
+            CHECK.due("count(h, 1, 0) " + h, x.count(h, 1, 0), h);
+            for (int g = 0; g < 5; g++) {
+                CHECK.due("joins(h, g, 15) " + h + " " + g, x.joins(h, g, 15), h == g ? -1 : Math.min(h, g));
+            }
+        }
+    }
+
+    private static void theSmallestGroupCanBeAnyones() {
+        for (int alone = 0; alone < 24; alone++) {
+            OtherNames x = new OtherNames();
+            x.house(0, 1, 1, 0, 0);
+            x.house(0, 1, 1, 0, 0);
+            for (int p = 0; p < 24; p++) {
+                x.person(0, 0, 0, p == alone ? 1 : 0);
+                x.name(0, p);
+                x.name(1, p);
+            }
+            CHECK.due("least by MARK 3, alone " + alone, x.least(0, 8), 1);
+            CHECK.due("least by the others, alone " + alone, x.least(0, 7), 24);
+            CHECK.due("joins by MARK 3, alone " + alone, x.joins(0, 1, 8), 1);
+            CHECK.due("count of MARK 3, alone " + alone, x.count(1, 3, 1), 1);
+        }
     }
 
     private static void groupsAreMadeByMarks() {

@@ -220,7 +220,9 @@ public final class RefusedTest {
 
     private static void turningBackWithoutABook() {
         CHECK.refusedOnRecord(TOWN.then("lose 0"), "back 0 10 0 3 4", 3, 0, 10, 3, 4, 2);
+        CHECK.refusedOnRecord(TOWN.then("lose 1"), "back 1 20 1 3 4", 3, 1, 20, 3, 4, 2);
         CHECK.answers(TOWN, "lose 1; back 0 10 0 3 4", 0);
+        CHECK.answers(TOWN, "lose 0; back 1 20 1 3 4", 0);
         CHECK.answers(TOWN, "lose 0; anew 0 10; back 0 10 0 3 4", 0);
         CHECK.answers(TOWN, "lose 0; anew 0 20; back 0 10 0 3 4", -1);
     }
