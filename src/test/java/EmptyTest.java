@@ -4,7 +4,8 @@ public final class EmptyTest {
     private static final Story NEW = Story.of("");
     private static final Story PEOPLE_ALONE = Story.of("person 0 0 0 0; person 7 7 7 7");
     private static final Story HOUSES_ALONE = Story.of("house 0 1 5 255 24; house 1 1 6 255 24; house 2 1 7 255 24");
-    private static final Story NOBODY_NAMED = PEOPLE_ALONE.then("house 0 1 5 255 24; house 1 1 6 255 24; house 2 1 7 255 24");
+    private static final Story NOBODY_NAMED =
+            PEOPLE_ALONE.then("house 0 1 5 255 24; house 1 1 6 255 24; house 2 1 7 255 24");
 
     public static void main(String[] args) {
         aNewObjectHasNobodyAndNothing();

@@ -292,8 +292,8 @@ public final class FullTest {
     }
 
     private static void allCanBeFullAtOnce() {
-        Story full = Story.of("house 2 1 1 255 0; house 0 1 2 255 0; house 1 9 3 255 0; house 0 1 4 255 0; house 2 1 5 255 0")
-                .times(24, "person 1 2 3 4").times(20, "bridge 0 1 0 3000").times(200, "name 0 23")
+        Story full = Story.of("house 2 1 1 255 0; house 0 1 2 255 0; house 1 9 3 255 0; house 0 1 4 255 0")
+                .then("house 2 1 5 255 0").times(24, "person 1 2 3 4").times(20, "bridge 0 1 0 3000").times(200, "name 0 23")
                 .then("day 3000").times(199, "back 0 200 7 8 9").then("cross 0 1 1 0");
         int[] dues = {24, 5, 3000, 200, 200, 20};
         for (int what = 0; what < dues.length; what++) {

@@ -5,7 +5,7 @@ public final class RefusedTest {
         0, -1, 9973, 9983, Integer.MIN_VALUE, Integer.MIN_VALUE + 10, Integer.MAX_VALUE, 10 + 65536,
     };
 
-    /** Houses 0 LASTING (seed 10, all reasons), 1 SPANNED by 5 days (seed 20, all but reason 0), 2 ONCE (seed 33, no reason). */
+    /** Houses 0 LASTING (seed 10, all reasons), 1 SPANNED by 5 days (seed 20, not reason 0), 2 ONCE (seed 33, none). */
     private static final Story TOWN = Story.of("person 0 1 2 3; person 4 5 6 7; person 1 1 1 1; person 2 2 2 2;"
             + "house 0 1 10 255 0; house 1 5 20 254 3; house 2 1 33 0 0;"
             + "name 0 0; name 0 1; name 1 0; name 2 0; bridge 0 1 3 4; bridge 1 0 0 3000; bridge 2 0 0 3000; day 2");
